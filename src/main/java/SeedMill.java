@@ -57,7 +57,9 @@ public final class SeedMill {
         }
         key.fill(0);
         value.fill(1);
-        reseedByInput();
+        stir();
+        input.empty();
+        drawCounter = 1;
         return 1;
     }
 
@@ -65,7 +67,9 @@ public final class SeedMill {
         if (input.size() == 0 || !isSeeded()) {
             return 0;
         }
-        reseedByInput();
+        stir();
+        input.empty();
+        drawCounter = 1;
         return 1;
     }
 
@@ -183,12 +187,6 @@ public final class SeedMill {
 
     private boolean isSeeded() {
         return drawCounter > 0;
-    }
-
-    private void reseedByInput() {
-        stir();
-        input.empty();
-        drawCounter = 1;
     }
 
     /** Stirs with the input; an empty one leaves out the second turn. */

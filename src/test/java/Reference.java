@@ -1,4 +1,3 @@
-import java.io.ByteArrayOutputStream;
 import java.security.GeneralSecurityException;
 import java.security.MessageDigest;
 import java.util.Arrays;
@@ -6,15 +5,15 @@ import javax.crypto.Mac;
 import javax.crypto.spec.SecretKeySpec;
 
 /** The document once more, over the Java library's hash and keyed hash. */
-final class Reference {
-    byte[] input = {};
-    byte[] ownKey = {};
-    byte[] drawn = {};
-    byte[] key = {};
-    byte[] value = {};
-    int counter = 0;
-    int interval = 100;
-    int draws = 0;
+final class Reference implements Face {
+    private byte[] input = {};
+    private byte[] ownKey = {};
+    private byte[] drawn = {};
+    private byte[] key = {};
+    private byte[] value = {};
+    private int counter = 0;
+    private int interval = 100;
+    private int draws = 0;
 
     static byte[] hashOf(byte[] row) {
         try {
@@ -35,15 +34,8 @@ final class Reference {
         }
     }
 
-    static byte[] join(byte[]... rows) {
-        ByteArrayOutputStream all = new ByteArrayOutputStream();
-        for (byte[] row : rows) {
-            all.write(row, 0, row.length);
-        }
-        return all.toByteArray();
-    }
-
-    int feed(long bytes, int n) {
+    @Override
+    public int feed(long bytes, int n) {
         if (n < 1 || n > 8 || input.length + n > 300) {
             return -1;
         }
@@ -51,27 +43,29 @@ final class Reference {
         for (int i = 0; i < n; i++) {
             more[n - 1 - i] = (byte) (bytes >> (8 * i));
         }
-        input = join(input, more);
+        input = Bytes.join(input, more);
         return input.length;
     }
 
-    int clear() {
+    @Override
+    public int clear() {
         return takeInput().length;
     }
 
-    int seed() {
+    @Override
+    public int seed() {
         if (input.length == 0) {
             return 0;
         }
-        key = new byte[32];
-        value = new byte[32];
-        Arrays.fill(value, (byte) 1);
+        key = Bytes.all(32, 0);
+        value = Bytes.all(32, 1);
         stir(takeInput());
         counter = 1;
         return 1;
     }
 
-    int reseed() {
+    @Override
+    public int reseed() {
         if (input.length == 0 || counter == 0) {
             return 0;
         }
@@ -80,7 +74,8 @@ final class Reference {
         return 1;
     }
 
-    int draw(int n) {
+    @Override
+    public int draw(int n) {
         if (counter == 0) {
             return 1;
         }
@@ -97,7 +92,7 @@ final class Reference {
         byte[] bytes = {};
         while (bytes.length < n) {
             value = keyedHashOf(key, value);
-            bytes = join(bytes, value);
+            bytes = Bytes.join(bytes, value);
         }
         drawn = Arrays.copyOf(bytes, n);
         stir(row);
@@ -106,7 +101,8 @@ final class Reference {
         return 0;
     }
 
-    int interval(int n) {
+    @Override
+    public int interval(int n) {
         if (n < 1 || n > 1000) {
             return 0;
         }
@@ -114,7 +110,26 @@ final class Reference {
         return 1;
     }
 
-    int forget() {
+    @Override
+    public int out(int i) {
+        return at(drawn, i);
+    }
+
+    @Override
+    public int counter() {
+        return counter;
+    }
+
+    @Override
+    public int state(int which, int i) {
+        if (counter == 0 || which < 0 || which > 1) {
+            return -1;
+        }
+        return at(which == 0 ? key : value, i);
+    }
+
+    @Override
+    public int forget() {
         if (counter == 0) {
             return 0;
         }
@@ -123,24 +138,34 @@ final class Reference {
         return 1;
     }
 
-    int own() {
+    @Override
+    public int hash(int i) {
+        return at(hashOf(input), i);
+    }
+
+    @Override
+    public int own() {
         ownKey = takeInput();
         return ownKey.length;
     }
 
-    int state(int which, int i) {
-        if (counter == 0 || which < 0 || which > 1) {
-            return -1;
-        }
-        return at(which == 0 ? key : value, i);
+    @Override
+    public int keyed(int i) {
+        return at(keyedHashOf(ownKey, input), i);
     }
 
-    int count(int what) {
+    @Override
+    public int count(int what) {
         int[] counts = {input.length, drawn.length, ownKey.length, draws, interval};
         return what >= 0 && what < counts.length ? counts[what] : -1;
     }
 
-    static int at(byte[] row, int i) {
+    @Override
+    public int check() {
+        return 1;
+    }
+
+    private static int at(byte[] row, int i) {
         return i >= 0 && i < row.length ? row[i] & 0xFF : -1;
     }
 
@@ -152,7 +177,7 @@ final class Reference {
 
     private void stir(byte[] row) {
         for (int turn = 0; turn < (row.length == 0 ? 1 : 2); turn++) {
-            key = keyedHashOf(key, join(value, new byte[] {(byte) turn}, row));
+            key = keyedHashOf(key, Bytes.join(Bytes.join(value, new byte[] {(byte) turn}), row));
             value = keyedHashOf(key, value);
         }
     }

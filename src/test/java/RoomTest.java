@@ -1,52 +1,40 @@
 import java.lang.management.ManagementFactory;
 
-/** Calls make no objects: all the room is taken by the constructor, and that is little. */
+/** The room of a run: 512 of the dearest calls stay far under 7.3 million elements in all. */
 public final class RoomTest {
+    private static final long ROOM = 7_300_000L * Integer.BYTES;
     private static final com.sun.management.ThreadMXBean THREADS =
             (com.sun.management.ThreadMXBean) ManagementFactory.getThreadMXBean();
 
     public static void main(String[] args) {
-        SeedMill mill = new SeedMill();
-        allCalls(mill);
+        byte[] full = Bytes.some(300, 1);
+        Run drawing = Run.seed(full).then(face -> face.interval(1000));
+        Run keyed = Run.own(full).then(Run.feed(full));
+        dueRoom("draw(400)", drawing, face -> face.draw(400));
+        dueRoom("draw(400) with input", drawing, face -> face.feed(1, 8), face -> face.draw(400));
+        dueRoom("check()", drawing, Face::check);
+        dueRoom("keyed(31)", keyed, face -> face.keyed(31));
+        dueRoom("hash(31)", keyed, face -> face.hash(31));
+        dueRoom("feed and seed", keyed, face -> face.feed(1, 8), Face::seed);
+        dueRoom("feed and reseed", drawing, face -> face.feed(1, 8), Face::reseed);
+        dueRoom("feed and own", drawing, face -> face.feed(1, 8), Face::own);
+        Due.finish();
+    }
+
+    private static void dueRoom(String what, Run begin, Run.Call... calls) {
         long before = allocated();
-        for (int i = 0; i < 200; i++) {
-            allCalls(mill);
+        Mill mill = new Mill();
+        begin.on(mill);
+        while (mill.calls() + calls.length <= Mill.CALLS) {
+            for (Run.Call call : calls) {
+                call.on(mill);
+            }
         }
         long made = allocated() - before;
-        // The measuring itself may make an object or two.
-        Due.holds("3000 calls make next to nothing, they made " + made + " bytes", made < 3000);
-
-        before = allocated();
-        for (int i = 0; i < 100; i++) {
-            new SeedMill().clear();
-        }
-        long each = (allocated() - before) / 100;
-        Due.holds("an object is small, it has " + each + " bytes", each < 20000);
-        Due.finish();
+        Due.holds("512 calls of " + what + " made " + made + " bytes, which is little", made < ROOM);
     }
 
     private static long allocated() {
         return THREADS.getThreadAllocatedBytes(Thread.currentThread().getId());
-    }
-
-    private static void allCalls(SeedMill mill) {
-        mill.clear();
-        mill.interval(1000);
-        mill.feed(1, 8);
-        mill.own();
-        mill.feed(1, 8);
-        mill.hash(0);
-        mill.keyed(0);
-        mill.seed();
-        mill.feed(1, 8);
-        mill.reseed();
-        mill.feed(1, 8);
-        mill.draw(400);
-        mill.out(0);
-        mill.state(0, 0);
-        mill.counter();
-        mill.count(0);
-        mill.check();
-        mill.forget();
     }
 }

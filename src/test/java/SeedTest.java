@@ -210,7 +210,8 @@ public final class SeedTest {
         Due.sentence("Promise 11: It is not seeded any more, and nothing is drawn: 1");
         for (State state : State.values()) {
             if (state.isSeeded()) {
-                Look.asDue(state + ": forget()", state.run.then(Run.due(state + ": forget()", 1, Face::forget))
+                Look.asDue(state + ": forget()", state.run
+                        .then(Run.due(state + ": forget()", 1, Face::forget))
                         .then(counter(0)).then(count(1, 0))
                         .then(Run.due("out(0)", -1, face -> face.out(0)))
                         .then(Run.due("state(0, 0)", -1, face -> face.state(0, 0)))
